@@ -37,7 +37,7 @@ final class Bench {
     }
 
     static long descriptor(int number, int bits) {
-        return (long) number << 32 | bits;
+        return (long) number << 32 | bits & 0xFFFFFFFFL;
     }
 
     /** Writes instructions from a place on. */
