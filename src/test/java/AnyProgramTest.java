@@ -86,7 +86,7 @@ public final class AnyProgramTest {
         }
         for (int i = 0; i < 8; i++) {
             bench.machine.interrupt(next(9), next(256));
-            int n = 1 + next(31);
+            int n = next(2) == 0 ? 1 : 1 + next(31);
             looksRight(bench, bench.halted() != 0, n, bench.run(n));
             users += bench.status() >> 3;
         }
