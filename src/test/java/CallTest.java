@@ -17,6 +17,7 @@ public final class CallTest {
         comeBackToKernel();
         comeBackToUser();
         comeBackMasksWhatItReads();
+        comeBackReadsWholeWords();
         comeBackHalts();
         comeBackReadsAsKernel();
         thereAndBack();
@@ -234,6 +235,22 @@ public final class CallTest {
         kernel.run(1);
         CHECK.is("PS", kernel.status(), 5);
         CHECK.is("PC", kernel.r(32), 4000);
+    }
+
+    private static void comeBackReadsWholeWords() {
+        Bench bench = new Bench().put(30, Bench.DIRECT).code(Code.call(0x3F));
+        for (int i = 0; i < 6; i++) {
+            bench.set(8 * i, 0x0123456700000000L + 4 * i);
+        }
+        bench.run(1);
+        CHECK.is("from place 0", bench.halted(), 0);
+        CHECK.is("PS", bench.status(), 0);
+        CHECK.is("PC", bench.r(32), 0x0123456700000004L);
+        CHECK.is("R29", bench.r(29), 0x0123456700000008L);
+        CHECK.is("R16", bench.r(16), 0x012345670000000CL);
+        CHECK.is("R17", bench.r(17), 0x0123456700000010L);
+        CHECK.is("R18", bench.r(18), 0x0123456700000014L);
+        CHECK.is("R30", bench.r(30), Bench.DIRECT + 48);
     }
 
     private static void comeBackHalts() {

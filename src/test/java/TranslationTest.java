@@ -16,6 +16,7 @@ public final class TranslationTest {
         placesInAPage();
         bufferKeepsDescriptors();
         bufferIsFirstInFirstOut();
+        bufferBeginsAnew();
         bufferKnowsSpaces();
         bufferTakesValidOnesAlone();
         fetchesComeIntoTheBuffer();
@@ -268,6 +269,26 @@ public final class TranslationTest {
             }
         }
         CHECK.is("four", bench.buffered(), 4);
+    }
+
+    // Emptied after one has gone, it must not go on with the next one's turn.
+    private static void bufferBeginsAnew() {
+        Bench bench = fourPages();
+        for (int page = 0; page < 5; page++) {
+            access(bench, READ, 256 * page);
+        }
+        bench.call(0x33, 0, 0);
+        for (int page = 0; page < 5; page++) {
+            access(bench, READ, 256 * page);
+        }
+        CHECK.is("four", bench.buffered(), 4);
+        bench.set(Bench.TABLE, 0);
+        for (int page = 1; page < 5; page++) {
+            access(bench, READ, 256 * page);
+            CHECK.is("page " + page + " is there", bench.r(32), Bench.CODE + 4);
+        }
+        access(bench, READ, 0);
+        CHECK.is("page 0 has gone", bench.r(32), 900);
     }
 
     private static void bufferKnowsSpaces() {
