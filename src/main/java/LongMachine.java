@@ -281,7 +281,7 @@ public final class LongMachine {
             registers[STACK] = ksp;
         }
         mode = KERNEL;
-        if (!storeFrame()) {
+        if (!moveFrame(registers[STACK] - FRAME_BYTES, WRITE)) {
             halted = HALTED_BY_ENTRY;
             return;
         }
@@ -304,39 +304,27 @@ public final class LongMachine {
         frame[5] = registers[18];
     }
 
-    // Word by word: what stands before a fault has been stored.
-    private boolean storeFrame() {
-        long base = registers[STACK] - FRAME_BYTES;
+    // Word by word: what was stored before a fault stays.
+    private boolean moveFrame(long base, int access) {
         if ((base & 7) != 0) {
             return false;
         }
         for (int i = 0; i < FRAME_WORDS; i++) {
-            int place = memory.place(base + 8 * i, WRITE, mode);
+            int place = memory.place(base + 8 * i, access, mode);
             if (place < 0) {
                 return false;
             }
-            memory.store(place, true, frame[i]);
-        }
-        return true;
-    }
-
-    private boolean loadFrame() {
-        long base = registers[STACK];
-        if ((base & 7) != 0) {
-            return false;
-        }
-        for (int i = 0; i < FRAME_WORDS; i++) {
-            int place = memory.place(base + 8 * i, READ, mode);
-            if (place < 0) {
-                return false;
+            if (access == WRITE) {
+                memory.store(place, true, frame[i]);
+            } else {
+                frame[i] = memory.load(place, true);
             }
-            frame[i] = memory.load(place, true);
         }
         return true;
     }
 
     private void comeBack() {
-        if (!loadFrame()) {
+        if (!moveFrame(registers[STACK], READ)) {
             halted = HALTED_BY_RETURN;
             return;
         }
