@@ -94,7 +94,7 @@ final class Bench {
         return machine.state(5);
     }
 
-    /** Does a call of the kernel with these in R16 and R17; only R0 is kept as it was, too. */
+    /** Does a call of the kernel with these in R16 and R17; PC, R0, R16 and R17 are as before after it. */
     Bench call(int number, long r16, long r17) {
         long[] before = {r(0), r(16), r(17), r(32), machine.word(HELPER)};
         put(16, r16).put(17, r17).put(32, DIRECT + HELPER);

@@ -45,7 +45,7 @@ public final class InterruptTest {
         CHECK.is("the next", bench.machine.interrupt(7, 7), false);
     }
 
-    // The vector leads to a call that lowers the level again.
+    // The level is 0, and the vector leads to code that does nothing.
     private static Bench bench() {
         Bench bench = new Bench().vector(0, Bench.CODE).level(0);
         bench.code(Code.NOTHING, Code.NOTHING, Code.NOTHING);
