@@ -14,6 +14,8 @@ final class Bench {
     static final int TABLE = 2048;
     static final int SECOND = 9;
     static final int THIRD = 10;
+    /** The number of the page in which userCode writes. */
+    static final int USER_PAGE = 3;
 
     static final int VALID = 1;
     static final int ON_READ = 2;
@@ -66,12 +68,32 @@ final class Bench {
         return this;
     }
 
+    /** What calls tell of the machine: all but most of its memory. */
+    String seen() {
+        StringBuilder text = new StringBuilder();
+        for (int r = 0; r <= 45; r++) {
+            text.append(r(r)).append(' ');
+        }
+        for (int what = 0; what <= 5; what++) {
+            text.append(machine.state(what)).append(' ');
+        }
+        for (int address = 0; address < 64; address += 8) {
+            text.append(machine.word(address)).append(' ').append(machine.word(256 + address)).append(' ')
+                    .append(machine.word(4032 + address)).append(' ');
+        }
+        return text.toString();
+    }
+
     long r(int r) {
         return machine.register(r);
     }
 
     int run(int n) {
         return machine.run(n);
+    }
+
+    int pending() {
+        return machine.state(4);
     }
 
     int status() {
@@ -133,6 +155,15 @@ final class Bench {
     /** Page 0 .. 3 of the tables; pages 4 .. 15 say the same as these. */
     Bench page(int page, int number, int bits) {
         return set(256 * THIRD + 8 * page, descriptor(number, bits));
+    }
+
+    /** Goes on in user mode with these instructions at address 0; page 0 is open. */
+    Bench userCodeAtLevel(int level, int... codes) {
+        return tables().page(0, USER_PAGE, OPEN).codeAt(256 * USER_PAGE, codes).user(level, 0, 0);
+    }
+
+    Bench userCode(int... codes) {
+        return userCodeAtLevel(0, codes);
     }
 
     /** Goes on in user mode at an address with this R30; KSP becomes what R30 was. */

@@ -20,9 +20,13 @@ final class Check {
         is(what, got, true);
     }
 
+    boolean holds() {
+        return answers > 0 && wrong == 0;
+    }
+
     void end() {
         System.out.println(answers + " answers, " + wrong + " wrong");
-        if (wrong != 0 || answers == 0) {
+        if (!holds()) {
             System.exit(1);
         }
     }
