@@ -31,11 +31,16 @@ final class Bench {
     private static final int HELPER_FRAME = 4040;
 
     final LongMachine machine = new LongMachine();
+    /** Gets each call that goes through the bench, too; null in most tests. */
+    private final MachineModel model;
 
     Bench() {
-        machine.put(32, CODE);
-        machine.put(30, STACK);
-        machine.put(33, STACK);
+        this(null);
+    }
+
+    Bench(MachineModel model) {
+        this.model = model;
+        put(32, CODE).put(30, STACK).put(33, STACK);
     }
 
     static long descriptor(int number, int bits) {
@@ -48,7 +53,7 @@ final class Bench {
             int at = place + 4 * i;
             int shift = 8 * (at & 4);
             long kept = machine.word(at & ~7) & ~(0xFFFFFFFFL << shift);
-            machine.set(at & ~7, kept | (codes[i] & 0xFFFFFFFFL) << shift);
+            set(at & ~7, kept | (codes[i] & 0xFFFFFFFFL) << shift);
         }
         return this;
     }
@@ -60,11 +65,17 @@ final class Bench {
 
     Bench put(int r, long v) {
         machine.put(r, v);
+        if (model != null) {
+            model.put(r, v);
+        }
         return this;
     }
 
     Bench set(int address, long v) {
         machine.set(address, v);
+        if (model != null) {
+            model.set(address, v);
+        }
         return this;
     }
 
@@ -89,6 +100,9 @@ final class Bench {
     }
 
     int run(int n) {
+        if (model != null) {
+            model.run(n);
+        }
         return machine.run(n);
     }
 
@@ -121,7 +135,7 @@ final class Bench {
         long[] before = {r(0), r(16), r(17), r(32), machine.word(HELPER)};
         put(16, r16).put(17, r17).put(32, DIRECT + HELPER);
         set(HELPER, Code.call(number));
-        machine.run(1);
+        run(1);
         put(0, before[0]).put(16, before[1]).put(17, before[2]).put(32, before[3]);
         set(HELPER, before[4]);
         return this;
@@ -182,7 +196,7 @@ final class Bench {
         int place = CODE - DIRECT;
         long code = machine.word(place);
         set(place, Code.call(0x3F)).put(32, CODE).put(30, DIRECT + HELPER_FRAME);
-        machine.run(1);
+        run(1);
         set(place, code).put(33, kernelStack).put(30, stack);
         for (int i = 0; i < 6; i++) {
             set(HELPER_FRAME + 8 * i, before[i]);

@@ -10,6 +10,7 @@ public final class EntryEdgesTest {
         document.holds("at R30 - 48 and on", EntryEdgesTest::lowestAndHighestStack);
         document.holds("PS as it was", EntryEdgesTest::statusAsItWas);
         document.holds("PC (the address of the instruction for 2, 3, 4", EntryEdgesTest::addressOfTheInstruction);
+        document.holds("unless it is said otherwise", EntryEdgesTest::saidOtherwise);
         document.holds("else of the next one", EntryEdgesTest::addressOfTheNext);
         document.holds("for 0 of that which would come)", EntryEdgesTest::addressThatWouldCome);
         document.holds("R29, R16, R17, R18; R30 falls by 48.", EntryEdgesTest::registersAsTheyWere);
@@ -134,6 +135,19 @@ public final class EntryEdgesTest {
         Bench fetch = bench().put(32, -4);
         fetch.run(1);
         frameIs(check, fetch, FRAME, 7, -4);
+    }
+
+    // 80h, 81h and AAh make ENTRY 3 too; what stands behind them is stored.
+    private static void saidOtherwise(Check check) {
+        for (int number : new int[] {0x80, 0x81, 0xAA}) {
+            Bench bench = bench().code(Code.call(number));
+            bench.run(1);
+            frameIs(check, bench, FRAME, 7, Bench.CODE + 4);
+            check.is("vector 3", bench.r(32), 448);
+        }
+        Bench unknown = bench().code(Code.call(0x82));
+        unknown.run(1);
+        frameIs(check, unknown, FRAME, 7, Bench.CODE);
     }
 
     private static void addressOfTheNext(Check check) {

@@ -8,6 +8,7 @@ public final class MemoryOpsEdgesTest {
     public static void main(String[] args) {
         Sentences document = new Sentences();
         document.holds("V = register B + D.", MemoryOpsEdgesTest::addressWraps);
+        document.holds("08 register A becomes V, 09 register B + 65536 * D.", MemoryOpsEdgesTest::addressesAlone);
         document.holds("28h, 29h: it becomes 4 bytes at V with sign, 8 bytes", MemoryOpsEdgesTest::loadsWithSign);
         document.holds("2Ah, 2Bh likewise, and the lock is on.", MemoryOpsEdgesTest::loadsWithLock);
         document.holds("2Ch, 2Dh: X goes to 4, 8 bytes at V.", MemoryOpsEdgesTest::storesAtTheEdges);
@@ -45,6 +46,20 @@ public final class MemoryOpsEdgesTest {
         Bench wide = new Bench().vector(2, 400).put(1, 0x100000000L + Bench.DIRECT).code(Code.memory(0x29, 2, 1, 0));
         wide.run(1);
         check.is("all 64 bits of V count", wide.r(17), 1);
+    }
+
+    // No place need be at such an address, and it need not be divisible by anything.
+    private static void addressesAlone(Check check) {
+        long[] bases = {0, 1, -1, 16383, 40001, Long.MIN_VALUE, Long.MAX_VALUE};
+        for (long base : bases) {
+            for (int d : new int[] {-32768, -1, 0, 1, 32767}) {
+                Bench bench = new Bench().put(1, base).code(Code.memory(0x08, 2, 1, d), Code.memory(0x09, 3, 1, d));
+                bench.run(2);
+                check.is("08 of " + base + ", " + d, bench.r(2), base + d);
+                check.is("09 of " + base + ", " + d, bench.r(3), base + 65536L * d);
+                check.is("entries", bench.entries(), 0);
+            }
+        }
     }
 
     private static void loadsWithSign(Check check) {

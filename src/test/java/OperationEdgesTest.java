@@ -83,7 +83,8 @@ public final class OperationEdgesTest {
         is(check, 0x10, 0x02, 0x20000000, 0, INT_MIN);
         is(check, 0x10, 0x02, 0x1FFFFFFF, 3, INT_MAX);
         is(check, 0x10, 0x12, 0x10000000, 0, INT_MIN);
-        is(check, 0x10, 0x12, 0x20000000, 0, 0);
+        is(check, 0x10, 0x12, 0x10000000, -1, INT_MAX);
+        is(check, 0x10, 0x12, 0x20000000, 7, 7);
         is(check, 0x10, 0x09, INT_MIN, 1, INT_MAX);
         is(check, 0x10, 0x09, 0, INT_MIN, INT_MIN);
         is(check, 0x10, 0x0B, 0x20000000, 1, INT_MAX);
@@ -109,6 +110,10 @@ public final class OperationEdgesTest {
         is(check, 0x10, 0x60, MAX - 1, 1, MAX);
         traps(check, 0x10, 0x60, MAX, 1, MIN);
         is(check, 0x10, 0x60, MIN, MAX, -1);
+        is(check, 0x10, 0x60, MAX, MIN, -1);
+        is(check, 0x10, 0x60, 1, -2, -1);
+        is(check, 0x10, 0x60, -1, 2, 1);
+        is(check, 0x10, 0x60, MAX, -1, MAX - 1);
         is(check, 0x10, 0x60, MIN + 1, -1, MIN);
         traps(check, 0x10, 0x60, MIN, -1, MAX);
         traps(check, 0x10, 0x60, MIN, MIN, 0);
@@ -120,6 +125,8 @@ public final class OperationEdgesTest {
         traps(check, 0x10, 0x69, 0, MIN, MIN);
         is(check, 0x10, 0x69, -1, MIN, MAX);
         is(check, 0x10, 0x69, MIN, MIN, 0);
+        is(check, 0x10, 0x69, 1, 2, -1);
+        is(check, 0x10, 0x69, -2, -1, -1);
     }
 
     private static void shortTraps(Check check) {
@@ -181,7 +188,21 @@ public final class OperationEdgesTest {
         }
     }
 
+    private static void logic(Check check) {
+        int[] fs = {0x00, 0x08, 0x20, 0x28, 0x40, 0x48};
+        // For the bits 0, 0; 0, 1; 1, 0; 1, 1 of X, Y, in the highest and the lowest four bits.
+        long[] due = {
+            0x1000000000000001L, 0x2000000000000002L, 0x7000000000000007L,
+            0xBFFFFFFFFFFFFFFBL, 0x6000000000000006L, 0x9FFFFFFFFFFFFFF9L
+        };
+        for (int i = 0; i < fs.length; i++) {
+            is(check, 0x11, fs[i], 0x3000000000000003L, 0x5000000000000005L, due[i]);
+        }
+    }
+
     private static void moves(Sentences document) {
+        document.holds("11h: 00 X & Y, 08 X & ~Y, 20h X | Y, 28h X | ~Y, 40h X ^ Y, 48h X ^ ~Y",
+                OperationEdgesTest::logic);
         document.holds("Y, or no result, unless X is 14h odd, 16h even", OperationEdgesTest::oddAndEven);
         document.holds("24h 0, 26h not 0", OperationEdgesTest::zeroOrNot);
         document.holds("44h below 0, 46h not below 0", OperationEdgesTest::belowOrNot);
@@ -298,11 +319,11 @@ public final class OperationEdgesTest {
         is(check, 0x12, 0x52, BYTES, 0, BYTES);
         is(check, 0x12, 0x62, BYTES, 0, BYTES);
         is(check, 0x12, 0x72, BYTES, 0, BYTES);
-        is(check, 0x12, 0x52, BYTES, 7, 0x8877665544332200L);
+        is(check, 0x12, 0x52, -1, 7, -0x100);
         is(check, 0x12, 0x52, BYTES, 6, BYTES);
-        is(check, 0x12, 0x62, BYTES, 5, 0x8877665544332200L);
-        is(check, 0x12, 0x72, BYTES, 1, 0x8877665544332200L);
-        is(check, 0x12, 0x72, BYTES, 7, 0x8800000000000000L);
+        is(check, 0x12, 0x62, -1, 5, -0x100);
+        is(check, 0x12, 0x72, -1, 1, -0x100);
+        is(check, 0x12, 0x72, -1, 7, 0xFF00000000000000L);
     }
 
     private static void shifts(Sentences document) {
@@ -390,6 +411,9 @@ public final class OperationEdgesTest {
         traps(check, 0x13, 0x60, 3037000500L, 3037000500L, 3037000500L * 3037000500L);
         is(check, 0x13, 0x60, -1, -1, 1);
         is(check, 0x13, 0x60, MIN, 0, 0);
+        is(check, 0x13, 0x60, 0, MIN, 0);
+        is(check, 0x13, 0x60, 0, 5, 0);
+        is(check, 0x13, 0x60, 0, -5, 0);
         traps(check, 0x13, 0x60, MIN, MIN, 0);
         is(check, 0x13, 0x60, INT_MIN, INT_MIN, 1L << 62);
     }
@@ -414,5 +438,8 @@ public final class OperationEdgesTest {
         Bench zero = new Bench().put(1, MAX).code(Code.operate(0x10, 1, 1, 0x60, 31));
         zero.run(1);
         check.is("R31 as C traps too", zero.entries(), 1);
+        Bench next = new Bench().vector(1, Bench.CODE + 4).put(1, MAX);
+        next.code(Code.operate(0x10, 1, 1, 0x60, 2), Code.operate(0x10, 2, 2, 0x20, 3)).run(2);
+        check.is("the instruction behind it does not trap", next.entries(), 1);
     }
 }

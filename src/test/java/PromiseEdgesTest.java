@@ -8,6 +8,7 @@ public final class PromiseEdgesTest {
     public static void main(String[] args) {
         Sentences document = new Sentences();
         document.holds("An object is used for at most 512 calls", PromiseEdgesTest::call512);
+        document.holds("what later calls answer is free", PromiseEdgesTest::laterCalls);
         newObject(document);
         setAndWord(document);
         putAndRegister(document);
@@ -40,6 +41,23 @@ public final class PromiseEdgesTest {
             check.is("run, call " + (i + 9), enters.run(31), 31);
         }
         check.is("entries, one in three steps", enters.state(5), (503 * 31 + 2) / 3);
+    }
+
+    // They may answer what they like, but none throws, and another object knows nothing of them.
+    private static void laterCalls(Check check) {
+        LongMachine machine = new LongMachine();
+        machine.put(30, Bench.STACK);
+        machine.put(32, Bench.CODE);
+        for (int i = 0; i < 5000; i++) {
+            machine.interrupt(i % 9, i % 257);
+            machine.set(8 * i, i);
+            machine.put(i % 40, i);
+            machine.run(i % 33);
+            machine.register(i % 50);
+            machine.word(8 * i);
+            machine.state(i % 8);
+        }
+        check.is("a new object's first call", new LongMachine().state(0), 7);
     }
 
     private static void newObject(Sentences document) {

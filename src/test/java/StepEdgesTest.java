@@ -191,6 +191,7 @@ public final class StepEdgesTest {
     private static void instructions(Sentences document) {
         document.holds("Otherwise the instruction of 4 bytes at PC is fetched (EXECUTE)", StepEdgesTest::fetches);
         document.holds("PC grows by 4", StepEdgesTest::growsByFour);
+        document.holds("OP is bits 31 .. 26, A bits 25 .. 21, B bits 20 .. 16", StepEdgesTest::everyAAndB);
         document.holds("D bits 15 .. 0", StepEdgesTest::edgesOfD);
         document.holds("E bits 20 .. 0, both with sign", StepEdgesTest::edgesOfE);
     }
@@ -221,6 +222,18 @@ public final class StepEdgesTest {
         page.run(1);
         check.is("behind a page", page.r(32), 256);
         check.is("entries", first.entries() + last.entries() + page.entries(), 0);
+    }
+
+    private static void everyAAndB(Check check) {
+        for (int r = 0; r < 31; r++) {
+            Bench a = new Bench().code(Code.memory(0x08, r, 31, -1));
+            a.run(1);
+            check.is("A " + r, a.r(r), -1);
+            Bench b = new Bench().put(r, 44).code(Code.memory(0x08, r ^ 1, r, 0), Code.branch(0x3F, r, 9));
+            b.run(2);
+            check.is("B " + r, b.r(r ^ 1), (r ^ 1) == 31 ? 0 : 44);
+            check.is("X is register " + r, b.r(32), Bench.CODE + 44);
+        }
     }
 
     private static void edgesOfD(Check check) {
